@@ -396,6 +396,16 @@ public final class LadderGridPromises {
                 }
             }
         }
+        // What comes over a link goes on through the next cell of that row.
+        LadderGrid on = rung(2, 3);
+        on.cell(0, 0, 1, 0);
+        on.cell(1, 1, 2, 0);
+        on.cell(1, 2, 6, 39);
+        on.link(0, 1, true);
+        on.set(0, 1);
+        due("scan()", on.scan(), 1);
+        due("power(1, 2)", on.power(1, 2), 1);
+        due("power(0, 2)", on.power(0, 2), 0);
         // Power never goes back to the left: the dead row gets none at line 1 through its wire from line 2.
         LadderGrid x = rung(3, 3);
         x.cell(0, 0, 1, 0);
